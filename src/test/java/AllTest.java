@@ -6,6 +6,8 @@ final class AllTest {
     public static void main(String[] args) {
         imageAndRestore();
         imageIsTheLatest();
+        restoreBringsPlansBack();
+        restoreBringsToldBack();
         restoreRefuses();
         restoreKeepsThePage();
         count();
@@ -67,6 +69,39 @@ final class AllTest {
         x.year();
         DUE.is("restore() of three years", x.restore(), 3);
         DUE.is("herd of three years", x.clan(0, 1), 27);
+    }
+
+    /** Plans of the same number, but of other clans, give way to those of the image. */
+    private static void restoreBringsPlansBack() {
+        CowsOwed x = Due.hills("c6,c0,k0,c1;3");
+        x.plan(0, 1);
+        x.image();
+        DUE.is("high() of the image", x.high(), 6);
+        x.dream();
+        x.plan(0, 2);
+        DUE.is("high() of another bride", x.high(), 2);
+        x.restore();
+        DUE.is("high() behind restore()", x.high(), 6);
+        x.dream();
+        x.plan(3, 1);
+        DUE.is("high() of another groom", x.high(), 1);
+        x.restore();
+        DUE.is("high() behind restore() again", x.high(), 6);
+    }
+
+    private static void restoreBringsToldBack() {
+        CowsOwed x = Due.hills("c6,c0;3");
+        x.tell(3, 4);
+        x.image();
+        x.forget();
+        x.tell(4, 4);
+        DUE.is("which() of another rate", x.which(), 9);
+        x.restore();
+        DUE.is("which() behind restore()", x.which(), 2);
+        x.forget();
+        x.tell(3, 8);
+        x.restore();
+        DUE.is("which() behind restore() again", x.which(), 2);
     }
 
     private static void restoreRefuses() {

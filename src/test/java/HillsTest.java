@@ -153,6 +153,9 @@ final class HillsTest {
     private static void hillsAreReadAnew() {
         CowsOwed x = Due.hills("c0,c1,k2;2");
         x.wed(0, 2);
+        x.rate(5);
+        x.wed(1, 0);
+        x.divorce(0);
         x.plan(1, 2);
         x.tell(3, 4);
         x.year();
@@ -167,11 +170,15 @@ final class HillsTest {
         DUE.is("anew: clan(0, 0)", x.clan(0, 0), 1);
         DUE.is("anew: clan(1, 0)", x.clan(1, 0), 2);
         DUE.is("anew: clan(0, 12)", x.clan(0, 12), 0);
+        DUE.is("anew: clan(1, 10)", x.clan(1, 10), 0);
+        DUE.is("anew: settled()", x.settled(), 0);
         DUE.is("anew: clan(2, 0)", x.clan(2, 0), UNKNOWN);
         DUE.refuses(x, "anew: restore()", x::restore, STATE);
         DUE.refuses(x, "anew: wedding(0, 0)", () -> x.wedding(0, 0), UNKNOWN);
         Due.write(x, "p7,o8");
         DUE.refuses(x, "anew: hills() of no hills", x::hills, STATE);
+        DUE.is("anew: wed(0, 1)", x.wed(0, 1), 0);
+        DUE.is("anew: wedding(0, 3) is not undone", x.wedding(0, 3), 0);
     }
 
     private static void clan() {

@@ -116,6 +116,7 @@ final class ShallBeTest {
         highOf("poor", planned("c5,o0;1", 0, 1), 6);
         highOf("kings", planned("c9,k0;1", 0, 1), 3);
         highOf("careful", planned("w5,c0;1", 0, 1), 4);
+        highOf("the least", planned("c1,c0;5", 0, 1), 1);
         highOf("none", planned("c0,c0;1", 0, 1), NONE);
         highOf("two", planned("c9,c0,c0;1", 0, 1, 0, 2), 4);
         highOf("paid on", planned("c7,c0,c0;1", 0, 1, 1, 2), 7);

@@ -214,6 +214,10 @@ final class WeddingsTest {
         x.wed(3, 2);
         DUE.is("settled() of what is left", x.settled(), 6);
         DUE.is("settled() changes nothing", x.count(3), 25);
+        CowsOwed first = Due.hills("c0,c0,c0;4");
+        first.wed(1, 0);
+        first.wed(2, 0);
+        DUE.is("settled() of all to the first", first.settled(), 8);
         CowsOwed back = Due.hills("c0,c0;4");
         back.wed(0, 1);
         back.rate(1);
