@@ -4,120 +4,267 @@ import java.math.BigInteger;
 final class ToldTest {
     private static final int NONE = CowsOwed.NONE, OUTSIDE = CowsOwed.OUTSIDE, STATE = CowsOwed.STATE,
         FULL = CowsOwed.FULL;
+    private static final int LEAST = Integer.MIN_VALUE, GREATEST = Integer.MAX_VALUE;
     private static final Due DUE = new Due("ToldTest");
 
     public static void main(String[] args) {
-        tell();
-        forget();
-        whichAndAsk();
-        whichOfEach();
-        agesRefuses();
-        agesSeed();
-        agesAsLived();
-        agesBeyondTwelveWeddings();
-        DUE.end();
+        DUE.cases(ToldTest.class);
     }
 
-    private static void tell() {
-        CowsOwed x = new CowsOwed();
-        int[][] wrong = {{0, 1}, {10, 1}, {1, 0}, {1, 21}, {-1, 5}, {5, -1},
-            {Integer.MIN_VALUE, 1}, {1, Integer.MIN_VALUE}, {Integer.MAX_VALUE, 1}, {1, Integer.MAX_VALUE}};
-        for (int[] pair : wrong) {
-            DUE.refuses(x, "tell(" + pair[0] + ", " + pair[1] + ")", () -> x.tell(pair[0], pair[1]), OUTSIDE);
-        }
-        DUE.is("tell(1, 1)", x.tell(1, 1), 1);
-        DUE.is("tell(9, 20)", x.tell(9, 20), 2);
-        for (int i = 3; i <= 6; i++) {
-            DUE.is("tell " + i, x.tell(9, 1), i);
-        }
-        DUE.refuses(x, "tell 7", () -> x.tell(1, 1), FULL);
-        DUE.refuses(x, "tell(0, 1) of 6", () -> x.tell(0, 1), OUTSIDE);
-        DUE.is("count(7)", x.count(7), 6);
+    private static CowsOwed six() {
+        return Due.told(1, 1, 2, 2, 3, 3, 4, 4, 5, 5, 6, 6);
     }
 
-    private static void forget() {
+    // ---- promise 18: tell
+
+    static void promise18_tell_tellsHowMuchIsTold() {
         CowsOwed x = Due.hills("c1,c1;1");
-        x.tell(3, 4);
-        x.tell(3, 2);
-        DUE.is("which()", x.which(), 0);
-        DUE.is("forget()", x.forget(), 2);
-        DUE.is("count(7)", x.count(7), 0);
-        DUE.is("which() behind forget()", x.which(), 31);
-        DUE.is("forget() again", x.forget(), 0);
-        DUE.is("tell behind forget()", x.tell(3, 2), 1);
-        DUE.is("which() behind tell", x.which(), 4);
+        DUE.is("tell(3, 4)", x.tell(3, 4), 1);
+        DUE.is("tell(3, 4) again", x.tell(3, 4), 2);
+        DUE.is("count(7)", x.count(7), 2);
     }
 
-    /** Pairs of rate and what was asked, then the kinds left and the rate to ask at. */
-    private static void whichAndAsk() {
-        left(31, 2);
-        left(9, 1, 3, 3);
-        left(2, 1, 3, 4);
-        left(4, 1, 3, 2);
-        left(16, 1, 3, 8);
-        left(0, NONE, 3, 5);
-        left(13, 2, 1, 1);
-        left(2, 1, 1, 2);
-        left(16, 1, 1, 4);
-        left(0, NONE, 1, 3);
-        left(16, 1, 9, 20);
-        left(9, 1, 1, 1, 2, 2);
-        left(4, 1, 1, 1, 2, 1);
-        left(4, 1, 2, 1, 1, 1);
-        left(0, NONE, 1, 1, 2, 3);
-        left(9, 1, 1, 1, 2, 2, 3, 3, 4, 4, 5, 5, 6, 6);
-        left(0, NONE, 1, 1, 2, 2, 3, 3, 4, 4, 5, 5, 6, 7);
+    static void promise18_tell_isTakenWithoutHills() {
+        DUE.is("tell(3, 4)", new CowsOwed().tell(3, 4), 1);
     }
 
-    private static void left(int kinds, int rate, int... told) {
-        CowsOwed x = new CowsOwed();
-        StringBuilder name = new StringBuilder("told");
-        for (int i = 0; i + 1 < told.length; i += 2) {
-            x.tell(told[i], told[i + 1]);
-            name.append(' ').append(told[i]).append(':').append(told[i + 1]);
+    static void promise18_tell_rateIs1To9() {
+        DUE.is("tell(1, 1)", new CowsOwed().tell(1, 1), 1);
+        DUE.is("tell(9, 1)", new CowsOwed().tell(9, 1), 1);
+        for (int rate : new int[] {LEAST, -1, 0, 10, GREATEST}) {
+            DUE.refuses(Due::busy, "tell(" + rate + ", 1)", x -> x.tell(rate, 1), OUTSIDE);
         }
-        DUE.is(name + ": which()", x.which(), kinds);
-        DUE.is(name + ": ask()", x.ask(), rate);
     }
 
-    /** Which kinds ask what, as the clans of hills do. */
-    private static void whichOfEach() {
-        String letters = "cpowk";
+    static void promise18_tell_askedIs1To20() {
+        DUE.is("tell(9, 1)", new CowsOwed().tell(9, 1), 1);
+        DUE.is("tell(9, 20)", new CowsOwed().tell(9, 20), 1);
+        for (int asked : new int[] {LEAST, -1, 0, 21, GREATEST}) {
+            DUE.refuses(Due::busy, "tell(9, " + asked + ")", x -> x.tell(9, asked), OUTSIDE);
+        }
+    }
+
+    static void promise18_tell_isTakenThoughNoKindAsksSo() {
+        DUE.is("tell(1, 20)", new CowsOwed().tell(1, 20), 1);
+        CowsOwed x = Due.told(3, 4, 3, 5);
+        DUE.is("tell(3, 6)", x.tell(3, 6), 3);
+    }
+
+    static void promise18_tell_theSixthIsTheLast() {
+        DUE.is("tell 6", Due.told(1, 1, 2, 2, 3, 3, 4, 4, 5, 5).tell(6, 6), 6);
+        DUE.refuses(ToldTest::six, "tell 7", x -> x.tell(7, 7), FULL);
+        DUE.refuses(ToldTest::six, "tell 7 that fits none", x -> x.tell(7, 20), FULL);
+        DUE.is("count(7)", six().count(7), 6);
+    }
+
+    static void promise18_tell_tellsOutsideAheadOfFull() {
+        DUE.refuses(ToldTest::six, "tell(0, 1)", x -> x.tell(0, 1), OUTSIDE);
+        DUE.refuses(ToldTest::six, "tell(10, 1)", x -> x.tell(10, 1), OUTSIDE);
+        DUE.refuses(ToldTest::six, "tell(1, 0)", x -> x.tell(1, 0), OUTSIDE);
+        DUE.refuses(ToldTest::six, "tell(1, 21)", x -> x.tell(1, 21), OUTSIDE);
+    }
+
+    // ---- promise 19: forget
+
+    static void promise19_forget_tellsHowMuchWasTold() {
+        DUE.is("of nothing", new CowsOwed().forget(), 0);
+        DUE.is("of one", Due.told(3, 4).forget(), 1);
+        DUE.is("of six", six().forget(), 6);
+    }
+
+    static void promise19_forget_leavesNothingTold() {
+        CowsOwed x = six();
+        x.forget();
+        DUE.is("count(7)", x.count(7), 0);
+        DUE.is("which()", x.which(), 31);
+        DUE.is("ask()", x.ask(), 2);
+        DUE.is("forget() again", x.forget(), 0);
+        DUE.is("digest()", x.digest(), new CowsOwed().digest());
+    }
+
+    static void promise19_forget_endsFull() {
+        CowsOwed x = six();
+        x.forget();
+        for (int size = 1; size <= 6; size++) {
+            DUE.is("tell " + size, x.tell(3, 2), size);
+        }
+        DUE.is("tell 7", x.tell(3, 2), FULL);
+        DUE.is("which()", x.which(), 4);
+    }
+
+    static void promise19_forget_ofNothingChangesNothing() {
+        DUE.changesNothing(() -> Due.hills("c1,c1;1"), "forget()", CowsOwed::forget);
+    }
+
+    // ---- promises 20 and 21: which and ask
+
+    private static void which(int want, int... told) {
+        DUE.is("which()", Due.told(told).which(), want);
+    }
+
+    static void promise20_which_ofNothingToldIsAll() {
+        which(31);
+    }
+
+    static void promise20_which_ofOneToldAtRate3() {
+        which(4, 3, 2);
+        which(9, 3, 3);
+        which(2, 3, 4);
+        which(0, 3, 5);
+        which(16, 3, 8);
+    }
+
+    static void promise20_which_aPoorOneAsks1AtRate1() {
+        which(13, 1, 1);
+        which(4, 2, 1);
+        which(0, 3, 1);
+    }
+
+    static void promise20_which_kingsAsk20AtRate9() {
+        which(16, 9, 20);
+        which(0, 9, 19);
+        which(0, 8, 20);
+        which(16, 1, 4);
+    }
+
+    static void promise20_which_mustFitAllThatIsTold() {
+        which(9, 1, 1, 2, 2);
+        which(4, 1, 1, 2, 1);
+        which(4, 2, 1, 1, 1);
+        which(0, 1, 1, 2, 3);
+        which(2, 1, 2, 9, 10);
+    }
+
+    static void promise20_which_theSixthToldCounts() {
+        which(9, 1, 1, 2, 2, 3, 3, 4, 4, 5, 5, 6, 6);
+        which(0, 1, 1, 2, 2, 3, 3, 4, 4, 5, 5, 6, 7);
+        which(0, 1, 2, 2, 2, 3, 3, 4, 4, 5, 5, 6, 6);
+    }
+
+    static void promise20_which_isAsTheClansOfHillsAsk() {
         for (int rate = 1; rate <= 9; rate++) {
             for (int asked = 1; asked <= 20; asked++) {
                 int want = 0;
                 for (int kind = 0; kind < 5; kind++) {
-                    CowsOwed hills = Due.hills("c0," + letters.charAt(kind) + "0;1");
+                    CowsOwed hills = Due.hills("c0," + "cpowk".charAt(kind) + "0;1");
                     hills.rate(rate);
                     want |= hills.clan(1, 2) == asked ? 1 << kind : 0;
                 }
-                CowsOwed x = new CowsOwed();
-                x.tell(rate, asked);
-                DUE.is("which() of " + rate + ":" + asked, x.which(), want);
+                which(want, rate, asked);
             }
         }
     }
 
-    private static void agesRefuses() {
-        CowsOwed x = Due.hills("c1,p2,k3;2");
-        int big = Integer.MAX_VALUE;
-        int least = Integer.MIN_VALUE;
-        int[][] wrong = {{0, 1, 0}, {41, 1, 0}, {-1, 1, 0}, {big, 1, 0}, {least, 1, 0}, {1, -1, 0}, {1, least, 0},
-            {1, 1, -1}, {1, 1, 3}, {1, 1, big}, {1, 1, least}};
-        for (int[] of : wrong) {
-            String name = "ages(" + of[0] + ", " + of[1] + ", " + of[2] + ")";
-            DUE.refuses(x, name, () -> x.ages(of[0], of[1], of[2]), OUTSIDE);
-            DUE.is(name + " without hills", new CowsOwed().ages(of[0], of[1], of[2]), OUTSIDE);
-        }
-        DUE.is("ages(1, 0, 2) without hills", new CowsOwed().ages(1, 0, 2), STATE);
-        DUE.is("ages(40, MAX, 0) without hills", new CowsOwed().ages(40, big, 0), STATE);
+    static void promise20_which_doesNotHangOnHills() {
+        CowsOwed x = Due.hills("p5,p5;5");
+        DUE.is("which()", x.which(), 31);
+        x.rate(9);
+        x.tell(3, 3);
+        DUE.is("which() of 3:3", x.which(), 9);
     }
 
-    private static void agesSeed() {
+    static void promise20_which_changesNothing() {
+        DUE.changesNothing(ToldTest::six, "which()", CowsOwed::which);
+        DUE.changesNothing(Due::busy, "which()", CowsOwed::which);
+    }
+
+    private static void ask(int want, int... told) {
+        DUE.is("ask()", Due.told(told).ask(), want);
+    }
+
+    /** At rate 1 three kinds ask alike, at 2 and above only two. */
+    static void promise21_ask_ofAllKindsIsTheLeastOfLikeRates() {
+        ask(2);
+        ask(2, 1, 1);
+    }
+
+    static void promise21_ask_ofKindsNoRatePartsIs1() {
+        ask(1, 3, 3);
+        ask(1, 9, 9);
+        ask(1, 1, 1, 2, 2);
+    }
+
+    static void promise21_ask_ofOneKindIs1() {
+        ask(1, 3, 4);
+        ask(1, 3, 2);
+        ask(1, 3, 8);
+        ask(1, 9, 20);
+    }
+
+    static void promise21_ask_ofNoKindIsNone() {
+        ask(NONE, 3, 5);
+        ask(NONE, 1, 20);
+        ask(NONE, 1, 1, 2, 3);
+        ask(NONE, 1, 1, 2, 2, 3, 3, 4, 4, 5, 5, 6, 7);
+    }
+
+    static void promise21_ask_isToldThoughSixAreTold() {
+        DUE.is("ask()", six().ask(), 1);
+        ask(2, 1, 1, 1, 1, 1, 1, 1, 1, 1, 1, 1, 1);
+    }
+
+    static void promise21_ask_changesNothing() {
+        DUE.changesNothing(ToldTest::six, "ask()", CowsOwed::ask);
+        DUE.changesNothing(Due::busy, "ask()", CowsOwed::ask);
+    }
+
+    // ---- promise 22: ages
+
+    private static void ages(CowsOwed x, int years, int seed, int owed, int cows) {
+        DUE.is("ages(" + years + ", " + seed + ", 0)", x.ages(years, seed, 0), owed);
+        DUE.is("ages(" + years + ", " + seed + ", 1)", x.ages(years, seed, 1), cows);
+    }
+
+    private static BigInteger next(BigInteger seed) {
+        return seed.multiply(BigInteger.valueOf(1103515245)).add(BigInteger.valueOf(12345))
+            .mod(BigInteger.ONE.shiftLeft(31));
+    }
+
+    static void promise22_ages_yearsAre1To40() {
+        DUE.is("ages(1, 0, 2)", Due.busy().ages(1, 0, 2), 1406932606);
+        DUE.holds("ages(40, 0, 2)", Due.busy().ages(40, 0, 2) >= 0);
+        for (int years : new int[] {LEAST, -1, 0, 41, GREATEST}) {
+            DUE.refuses(Due::busy, "ages(" + years + ", 0, 2)", x -> x.ages(years, 0, 2), OUTSIDE);
+        }
+    }
+
+    static void promise22_ages_seedIs0AtLeast() {
+        DUE.is("ages(1, 0, 2)", Due.busy().ages(1, 0, 2), 1406932606);
+        DUE.refuses(Due::busy, "ages(1, -1, 2)", x -> x.ages(1, -1, 2), OUTSIDE);
+        DUE.refuses(Due::busy, "ages(1, LEAST, 2)", x -> x.ages(1, LEAST, 2), OUTSIDE);
+    }
+
+    static void promise22_ages_theGreatestSeedIsTaken() {
+        DUE.is("ages(1, GREATEST, 2)", Due.busy().ages(1, GREATEST, 2), 288979989);
+    }
+
+    static void promise22_ages_whatIs0To2() {
+        for (int what : new int[] {LEAST, -1, 3, GREATEST}) {
+            DUE.refuses(Due::busy, "ages(1, 0, " + what + ")", x -> x.ages(1, 0, what), OUTSIDE);
+        }
+    }
+
+    static void promise22_ages_withoutHillsIsState() {
+        for (int what = 0; what <= 2; what++) {
+            int asked = what;
+            DUE.refuses(CowsOwed::new, "ages(1, 0, " + what + ")", x -> x.ages(1, 0, asked), STATE);
+            DUE.refuses(CowsOwed::new, "ages(40, GREATEST, " + what + ")", x -> x.ages(40, GREATEST, asked), STATE);
+        }
+    }
+
+    static void promise22_ages_tellsOutsideAheadOfState() {
+        DUE.refuses(CowsOwed::new, "ages(0, 0, 0)", x -> x.ages(0, 0, 0), OUTSIDE);
+        DUE.refuses(CowsOwed::new, "ages(41, 0, 0)", x -> x.ages(41, 0, 0), OUTSIDE);
+        DUE.refuses(CowsOwed::new, "ages(1, -1, 0)", x -> x.ages(1, -1, 0), OUTSIDE);
+        DUE.refuses(CowsOwed::new, "ages(1, 0, -1)", x -> x.ages(1, 0, -1), OUTSIDE);
+        DUE.refuses(CowsOwed::new, "ages(1, 0, 3)", x -> x.ages(1, 0, 3), OUTSIDE);
+    }
+
+    /** Two draws a year, also where they are of the same clan. */
+    static void promise22_ages_theSeedWrapsAround() {
         CowsOwed x = Due.hills("c1,p2,k3;2");
-        DUE.is("ages(1, 0, 2)", x.ages(1, 0, 2), 1406932606);
-        for (int seed : new int[] {0, 1, 2, 471, 65536, 1 << 30, Integer.MAX_VALUE}) {
-            for (int years : new int[] {1, 2, 7, 40}) {
+        for (int seed : new int[] {0, 1, 2, 471, 65535, 65536, 1 << 30, GREATEST - 1, GREATEST}) {
+            for (int years : new int[] {1, 2, 7, 39, 40}) {
                 BigInteger last = BigInteger.valueOf(seed);
                 for (int i = 0; i < 2 * years; i++) {
                     last = next(last);
@@ -127,23 +274,78 @@ final class ToldTest {
         }
     }
 
-    private static BigInteger next(BigInteger seed) {
-        return seed.multiply(BigInteger.valueOf(1103515245)).add(BigInteger.valueOf(12345))
-            .mod(BigInteger.ONE.shiftLeft(31));
+    /** Seed 0 draws clan 0 twice: the year goes by without a wedding. */
+    static void promise22_ages_ofTheSameClanNoWedding() {
+        ages(Due.hills("c5,k0;5"), 1, 0, 0, 7);
+        ages(Due.hills("k0,k0,k0,k0;5"), 1, 0, 0, 0);
     }
 
-    /** Ages are the weddings and years that the draws tell, and leave all as it is. */
-    private static void agesAsLived() {
-        String[] all = {"c9,p8;3", "w5,k2,o7,p0;3", "k9,k9,k9;5", "w9,w1,o0,c4;2", "p9,o9,c9;1"};
-        for (String text : all) {
+    /** Of two, seed 2 draws 0 and 1, seed 4 draws 1 and 0. */
+    static void promise22_ages_hisIsDrawnAheadOfHers() {
+        ages(Due.hills("c0,k0;5"), 1, 2, 12, 0);
+        ages(Due.hills("c0,k0;5"), 1, 4, 5, 0);
+    }
+
+    /** Seed 7 draws 1 and 2 of three, seed 5 draws 3 and 1 of four. */
+    static void promise22_ages_drawsAreOfHowManyClansThereAre() {
+        ages(Due.hills("c0,c5,k0;1"), 1, 7, 0, 7);
+        ages(Due.hills("c5,c0,k0;1"), 1, 7, 4, 7);
+        ages(Due.hills("c0,k0,c0,c5;1"), 1, 5, 0, 7);
+        ages(Due.hills("c5,k0,c0,c0;1"), 1, 5, 4, 7);
+    }
+
+    /** A year ahead of the wedding would make two cows three, and nothing would be owed. */
+    static void promise22_ages_theWeddingIsAheadOfTheYear() {
+        ages(Due.hills("c2,c0;3"), 1, 2, 1, 3);
+    }
+
+    static void promise22_ages_beginWithWhatIsNow() {
+        ages(Due.wedded("c0,c0;5", 0, 1), 1, 0, 5, 0);
+        CowsOwed x = Due.hills("c5,k0;1");
+        x.rate(9);
+        ages(x, 1, 2, 15, 7);
+    }
+
+    static void promise22_ages_growTo99AtMost() {
+        ages(Due.hills("c9,c0;1"), 40, 0, 0, agesOfTwoPlainClans(40, 0));
+    }
+
+    /** What two clans have of 9 and 0 cows at rate 1, told by hand. */
+    private static int agesOfTwoPlainClans(int years, int firstSeed) {
+        int[] herd = {9, 0};
+        int[] owes = {0, 0};
+        BigInteger seed = BigInteger.valueOf(firstSeed);
+        for (int i = 0; i < years; i++) {
+            seed = next(seed);
+            int his = seed.testBit(16) ? 1 : 0;
+            seed = next(seed);
+            int hers = seed.testBit(16) ? 1 : 0;
+            if (his != hers) {
+                owes[his] += herd[his] > 0 ? 0 : 1;
+                herd[hers] += herd[his] > 0 ? 1 : 0;
+                herd[his] -= herd[his] > 0 ? 1 : 0;
+            }
+            for (int clan = 0; clan < 2; clan++) {
+                herd[clan] = herd[clan] > 99 ? herd[clan] : Math.min(99, herd[clan] + herd[clan] / 2);
+            }
+            for (int clan = 0; clan < 2; clan++) {
+                int paid = Math.min(owes[clan], herd[clan]);
+                owes[clan] -= paid;
+                herd[clan] -= paid;
+                herd[1 - clan] += paid;
+            }
+        }
+        return herd[0] + herd[1];
+    }
+
+    /** Ages are the weddings and years that the draws tell. */
+    static void promise22_ages_areAsIfLived() {
+        for (String text : new String[] {"c9,p8;3", "w5,k2,o7,p0;3", "k9,k9,k9;5", "w9,w1,o0,c4;2", "p9,o9,c9;1"}) {
             for (int seed = 0; seed < 60; seed += 7) {
                 for (int years = 1; years <= 12; years++) {
-                    CowsOwed x = Due.hills(text);
-                    x.wed(0, 1);
-                    long before = x.digest();
+                    CowsOwed x = Due.wedded(text, 0, 1);
                     int owed = x.ages(years, seed, 0);
                     int cows = x.ages(years, seed, 1);
-                    DUE.is(text + ": ages change nothing", x.digest(), before);
                     if (lived(x, years, seed)) {
                         String name = text + ": ages(" + years + ", " + seed + ", ";
                         DUE.is(name + "0)", owed, x.count(3));
@@ -172,7 +374,7 @@ final class ToldTest {
     }
 
     /** Without cows each wedding owes all: two kings at rate 9 owe 20 for each. */
-    private static void agesBeyondTwelveWeddings() {
+    static void promise22_ages_haveMoreThanTwelveWeddings() {
         CowsOwed x = Due.hills("k0,k0;1");
         x.rate(9);
         for (int seed = 0; seed < 20; seed++) {
@@ -184,8 +386,21 @@ final class ToldTest {
                 draw = next(draw);
                 weddings += his != draw.testBit(16) ? 1 : 0;
             }
-            DUE.is("ages(40, " + seed + ", 0) of kings", x.ages(40, seed, 0), 20L * weddings);
-            DUE.is("ages(40, " + seed + ", 1) of kings", x.ages(40, seed, 1), 0);
+            DUE.holds("seed " + seed + " draws more than 12 weddings", weddings > 12);
+            ages(x, 40, seed, 20 * weddings, 0);
+        }
+    }
+
+    static void promise22_ages_areToldThoughTwelveWeddingsWere() {
+        CowsOwed x = Due.wedded("c0,c0;1", 0, 1, 0, 1, 0, 1, 0, 1, 0, 1, 0, 1, 0, 1, 0, 1, 0, 1, 0, 1, 0, 1, 0, 1);
+        DUE.is("count(4)", x.count(4), 12);
+        ages(x, 1, 2, 13, 0);
+    }
+
+    static void promise22_ages_changeNothing() {
+        for (int what = 0; what <= 2; what++) {
+            int asked = what;
+            DUE.changesNothing(Due::busy, "ages(40, 471, " + what + ")", x -> x.ages(40, 471, asked));
         }
     }
 }

@@ -2,70 +2,172 @@
 final class WeddingsTest {
     private static final int UNKNOWN = CowsOwed.UNKNOWN, OUTSIDE = CowsOwed.OUTSIDE, STATE = CowsOwed.STATE,
         FULL = CowsOwed.FULL;
+    private static final int LEAST = Integer.MIN_VALUE, GREATEST = Integer.MAX_VALUE;
     private static final Due DUE = new Due("WeddingsTest");
 
     public static void main(String[] args) {
-        wed();
-        wedByACarefulOne();
-        wedRefuses();
-        wedding();
-        divorce();
-        divorceOwesAsAlive();
-        year();
-        yearPaysByNumber();
-        yearOfACarefulOne();
-        yearGrowth();
-        settled();
-        DUE.end();
+        DUE.cases(WeddingsTest.class);
     }
 
-    private static void wed() {
-        CowsOwed x = Due.hills("c5,p0,o2;3");
-        DUE.is("wed(0, 1)", x.wed(0, 1), 0);
-        DUE.is("herd of 0", x.clan(0, 1), 1);
-        DUE.is("herd of 1", x.clan(1, 1), 4);
-        DUE.is("nothing is owed", x.count(3), 0);
-        DUE.is("wed(0, 1) again", x.wed(0, 1), 1);
-        DUE.is("0 has paid all", x.clan(0, 1), 0);
-        DUE.is("0 owes 1 the rest", x.clan(0, 11), 3);
-        DUE.is("wed(0, 1) once more", x.wed(0, 1), 2);
-        DUE.is("0 owes 1 besides", x.clan(0, 11), 7);
-        DUE.is("wed(1, 0): debts do not pay", x.wed(1, 0), 3);
-        DUE.is("0 owes 1 as much", x.clan(0, 11), 7);
-        DUE.is("0 has what 1 paid", x.clan(0, 1), 3);
-        DUE.is("wed(1, 2) of a poor one", x.wed(1, 2), 4);
-        DUE.is("2 has", x.clan(2, 1), 4);
-        DUE.is("count(4)", x.count(4), 5);
+    private static void herds(CowsOwed x, int... wanted) {
+        for (int clan = 0; clan < wanted.length; clan++) {
+            DUE.is("herd of " + clan, x.clan(clan, 1), wanted[clan]);
+        }
     }
 
-    private static void wedByACarefulOne() {
-        CowsOwed x = Due.hills("w3,c0;5");
-        x.wed(0, 1);
-        DUE.is("a careful one keeps one", x.clan(0, 1), 1);
-        DUE.is("a careful one owes", x.clan(0, 11), 3);
-        CowsOwed none = Due.hills("w0,c0;5");
-        none.wed(0, 1);
-        DUE.is("a careful one without a herd", none.clan(0, 1), 0);
-        DUE.is("owes all of it", none.clan(0, 11), 5);
+    private static void owes(CowsOwed x, int from, int to, int want) {
+        DUE.is(from + " owes " + to, x.clan(from, 10 + to), want);
     }
 
-    private static void wedRefuses() {
+    /** So many weddings, round three rich clans. */
+    private static CowsOwed weddings(int many) {
         CowsOwed x = Due.hills("c9,c9,c9;1");
-        int[][] wrong = {{0, 0}, {2, 2}, {3, 0}, {0, 3}, {-1, 0}, {0, -1}, {Integer.MAX_VALUE, 1}, {1, Integer.MIN_VALUE}};
-        for (int[] pair : wrong) {
-            DUE.refuses(x, "wed(" + pair[0] + ", " + pair[1] + ")", () -> x.wed(pair[0], pair[1]), UNKNOWN);
+        for (int i = 0; i < many; i++) {
+            x.wed(i % 3, (i + 1) % 3);
         }
-        for (int i = 0; i < 12; i++) {
-            DUE.is("wed " + i, x.wed(i % 3, (i + 1) % 3), i);
-        }
-        DUE.refuses(x, "wed 12", () -> x.wed(0, 1), FULL);
-        DUE.refuses(x, "wed(1, 1) of 12", () -> x.wed(1, 1), UNKNOWN);
-        x.divorce(3);
-        DUE.refuses(x, "wed 12, one undone", () -> x.wed(0, 1), FULL);
-        DUE.is("count(4)", x.count(4), 12);
+        return x;
     }
 
-    private static void wedding() {
+    // ---- promise 9: wed
+
+    static void promise09_wed_tellsItsNumberFrom0() {
+        CowsOwed x = Due.hills("c5,p0;3");
+        DUE.is("wed(0, 1)", x.wed(0, 1), 0);
+        DUE.is("wed(0, 1) again", x.wed(0, 1), 1);
+        DUE.is("wed(1, 0)", x.wed(1, 0), 2);
+        DUE.is("count(4)", x.count(4), 3);
+    }
+
+    static void promise09_wed_paysAllWhenItsHerdIsMore() {
+        CowsOwed x = Due.wedded("c4,c0;3", 0, 1);
+        herds(x, 1, 3);
+        owes(x, 0, 1, 0);
+    }
+
+    static void promise09_wed_paysAllWhenItsHerdIsJustEnough() {
+        CowsOwed x = Due.wedded("c3,c0;3", 0, 1);
+        herds(x, 0, 3);
+        owes(x, 0, 1, 0);
+    }
+
+    static void promise09_wed_owesTheRestWhenItsHerdIsOneShort() {
+        CowsOwed x = Due.wedded("c2,c0;3", 0, 1);
+        herds(x, 0, 2);
+        owes(x, 0, 1, 1);
+        owes(x, 1, 0, 0);
+    }
+
+    static void promise09_wed_owesAllWithoutAHerd() {
+        CowsOwed x = Due.wedded("c0,c0;3", 0, 1);
+        herds(x, 0, 0);
+        owes(x, 0, 1, 3);
+    }
+
+    static void promise09_wed_carefulKeepsOne() {
+        CowsOwed enough = Due.wedded("w4,c0;3", 0, 1);
+        herds(enough, 1, 3);
+        owes(enough, 0, 1, 0);
+        CowsOwed oneShort = Due.wedded("w3,c0;3", 0, 1);
+        herds(oneShort, 1, 2);
+        owes(oneShort, 0, 1, 1);
+        CowsOwed one = Due.wedded("w1,c0;3", 0, 1);
+        herds(one, 1, 0);
+        owes(one, 0, 1, 3);
+    }
+
+    static void promise09_wed_carefulWithoutAHerdOwesAll() {
+        CowsOwed x = Due.wedded("w0,c0;3", 0, 1);
+        herds(x, 0, 0);
+        owes(x, 0, 1, 3);
+    }
+
+    static void promise09_wed_owesBesidesWhatItOwed() {
+        CowsOwed x = Due.wedded("c1,c0;3", 0, 1, 0, 1, 0, 1);
+        owes(x, 0, 1, 8);
+        DUE.is("count(3)", x.count(3), 8);
+    }
+
+    static void promise09_wed_debtsBothWaysStand() {
+        CowsOwed x = Due.wedded("c0,c0;3", 0, 1, 1, 0);
+        owes(x, 0, 1, 3);
+        owes(x, 1, 0, 3);
+    }
+
+    static void promise09_wed_cowsThatComePayNoDebtAtOnce() {
+        CowsOwed x = Due.wedded("c0,c3;3", 0, 1, 1, 0);
+        herds(x, 3, 0);
+        owes(x, 0, 1, 3);
+    }
+
+    static void promise09_wed_hersAsksNotHis() {
+        CowsOwed x = Due.wedded("k9,o9;3", 0, 1);
+        herds(x, 7, 11);
+        x.wed(1, 0);
+        herds(x, 15, 3);
+    }
+
+    static void promise09_wed_theTwelfthIsTheLast() {
+        DUE.is("wed 12", weddings(11).wed(2, 0), 11);
+        DUE.refuses(() -> weddings(12), "wed 13", x -> x.wed(0, 1), FULL);
+        DUE.is("count(4)", weddings(12).count(4), 12);
+    }
+
+    static void promise09_wed_undoneOnesCountForFull() {
+        DUE.refuses(() -> {
+            CowsOwed x = weddings(12);
+            x.divorce(0);
+            x.divorce(11);
+            return x;
+        }, "wed 13", x -> x.wed(0, 1), FULL);
+    }
+
+    static void promise09_wed_fullEndsWithRestore() {
+        CowsOwed x = weddings(11);
+        x.image();
+        x.wed(0, 1);
+        DUE.is("wed 13", x.wed(0, 1), FULL);
+        x.restore();
+        DUE.is("wed 12 again", x.wed(0, 1), 11);
+    }
+
+    static void promise09_wed_fullEndsWithOtherHills() {
+        CowsOwed x = weddings(12);
+        Due.write(x, "c9,c9;1");
+        x.hills();
+        DUE.is("wed", x.wed(0, 1), 0);
+    }
+
+    static void promise09_wed_unknownHis() {
+        DUE.is("wed(2, 0)", weddings(0).wed(2, 0), 0);
+        for (int his : new int[] {LEAST, -1, 3, 4, GREATEST}) {
+            DUE.refuses(() -> weddings(2), "wed(" + his + ", 0)", x -> x.wed(his, 0), UNKNOWN);
+        }
+    }
+
+    static void promise09_wed_unknownHers() {
+        DUE.is("wed(0, 2)", weddings(0).wed(0, 2), 0);
+        for (int hers : new int[] {LEAST, -1, 3, 4, GREATEST}) {
+            DUE.refuses(() -> weddings(2), "wed(0, " + hers + ")", x -> x.wed(0, hers), UNKNOWN);
+        }
+    }
+
+    static void promise09_wed_ofTheSameIsUnknown() {
+        for (int clan = 0; clan < 4; clan++) {
+            int same = clan;
+            DUE.refuses(Due::busy, "wed(" + clan + ", " + clan + ")", x -> x.wed(same, same), UNKNOWN);
+        }
+        DUE.refuses(Due::busy, "wed(4, 4)", x -> x.wed(4, 4), UNKNOWN);
+    }
+
+    static void promise09_wed_tellsUnknownAheadOfFull() {
+        DUE.refuses(() -> weddings(12), "wed(3, 0)", x -> x.wed(3, 0), UNKNOWN);
+        DUE.refuses(() -> weddings(12), "wed(0, 3)", x -> x.wed(0, 3), UNKNOWN);
+        DUE.refuses(() -> weddings(12), "wed(1, 1)", x -> x.wed(1, 1), UNKNOWN);
+    }
+
+    // ---- promise 10: wedding
+
+    static void promise10_wedding_tellsHisHersAndWhatWasAsked() {
         CowsOwed x = Due.hills("c9,k1,p0;2");
         x.wed(0, 1);
         x.rate(5);
@@ -76,152 +178,377 @@ final class WeddingsTest {
                 DUE.is("wedding(" + wedding + ", " + what + ")", x.wedding(wedding, what), due[wedding][what]);
             }
         }
+    }
+
+    static void promise10_wedding_askedIsToldThoughNothingWasPaid() {
+        DUE.is("wedding(0, 2)", Due.wedded("c0,k0;5", 0, 1).wedding(0, 2), 12);
+    }
+
+    static void promise10_wedding_tellsWhetherItIsUndone() {
+        CowsOwed x = weddings(2);
         x.divorce(0);
-        DUE.is("wedding(0, 3) undone", x.wedding(0, 3), 1);
-        DUE.is("wedding(1, 3) not undone", x.wedding(1, 3), 0);
-        DUE.is("wedding(0, 2) undone", x.wedding(0, 2), 6);
-        for (int what : new int[] {-1, 4, Integer.MIN_VALUE, Integer.MAX_VALUE}) {
-            DUE.refuses(x, "wedding(1, " + what + ")", () -> x.wedding(1, what), OUTSIDE);
-            DUE.refuses(x, "wedding(2, " + what + ")", () -> x.wedding(2, what), UNKNOWN);
-        }
-        DUE.refuses(x, "wedding(-1, 0)", () -> x.wedding(-1, 0), UNKNOWN);
-        DUE.refuses(x, "wedding(12, 0)", () -> x.wedding(12, 0), UNKNOWN);
-        DUE.refuses(x, "wedding(MAX, 0)", () -> x.wedding(Integer.MAX_VALUE, 0), UNKNOWN);
-    }
-
-    private static void divorce() {
-        CowsOwed x = Due.hills("c9,k1,c0;2");
-        x.wed(0, 1);
-        x.rate(9);
-        DUE.is("divorce(0) calls back what was asked then", x.divorce(0), 6);
-        DUE.is("0 has its herd again", x.clan(0, 1), 9);
-        DUE.is("1 has its herd again", x.clan(1, 1), 1);
-        DUE.refuses(x, "divorce(0) again", () -> x.divorce(0), STATE);
-        DUE.refuses(x, "divorce(1)", () -> x.divorce(1), UNKNOWN);
-        DUE.refuses(x, "divorce(-1)", () -> x.divorce(-1), UNKNOWN);
-        DUE.refuses(x, "divorce(MIN)", () -> x.divorce(Integer.MIN_VALUE), UNKNOWN);
-        DUE.refuses(x, "divorce(MAX)", () -> x.divorce(Integer.MAX_VALUE), UNKNOWN);
-    }
-
-    private static void divorceOwesAsAlive() {
-        CowsOwed x = Due.hills("c5,w2,c0;5");
-        x.wed(0, 1);
-        x.wed(1, 2);
-        DUE.is("1 paid on", x.clan(1, 1), 2);
-        DUE.is("divorce(0)", x.divorce(0), 1);
-        DUE.is("1 keeps one", x.clan(1, 1), 1);
-        DUE.is("1 owes the rest", x.clan(1, 10), 4);
         DUE.is("wedding(0, 3)", x.wedding(0, 3), 1);
-        CowsOwed unpaid = Due.hills("c0,c0;4");
-        unpaid.wed(0, 1);
-        DUE.is("divorce(0) of what was never paid", unpaid.divorce(0), 0);
-        DUE.is("it is owed besides", unpaid.clan(1, 10), 4);
-        DUE.is("as is the first", unpaid.clan(0, 11), 4);
+        DUE.is("wedding(1, 3)", x.wedding(1, 3), 0);
     }
 
-    private static void year() {
-        CowsOwed x = Due.hills("c9,c1,c0;5");
-        DUE.is("year()", x.year(), 0);
-        DUE.is("9 and half of it", x.clan(0, 1), 13);
-        DUE.is("1 and half of it", x.clan(1, 1), 1);
-        DUE.is("0 and half of it", x.clan(2, 1), 0);
-        DUE.is("count(5)", x.count(5), 1);
-        x.wed(1, 0);
-        DUE.is("1 owes 0", x.clan(1, 10), 4);
-        DUE.is("year() with debts", x.year(), 4);
-        DUE.is("count(5) again", x.count(5), 2);
-        DUE.is("year() without hills", new CowsOwed().year(), STATE);
+    static void promise10_wedding_undoneTellsWhatItWas() {
+        CowsOwed x = Due.wedded("c9,k1;2", 0, 1);
+        x.divorce(0);
+        DUE.is("wedding(0, 0)", x.wedding(0, 0), 0);
+        DUE.is("wedding(0, 1)", x.wedding(0, 1), 1);
+        DUE.is("wedding(0, 2)", x.wedding(0, 2), 6);
+        DUE.is("count(4)", x.count(4), 1);
     }
 
-    /** 0 owes 1 and 2, pays 1 first; 1 pays on in the same year; 2 pays 0, which is too late for 0. */
-    private static void yearPaysByNumber() {
-        CowsOwed x = Due.hills("c0,c0,c0;5");
-        x.wed(0, 1);
-        x.wed(0, 2);
-        x.wed(1, 2);
-        x.wed(2, 0);
-        DUE.is("all is owed", x.count(3), 20);
-        DUE.is("year() without cows", x.year(), 20);
-
-        CowsOwed y = Due.hills("c4,c0,c0,c4;5");
-        y.wed(0, 3);
-        y.wed(0, 1);
-        y.wed(0, 2);
-        y.wed(1, 2);
-        y.wed(2, 0);
-        y.rate(4);
-        y.wed(3, 0);
-        DUE.is("herd of 0", y.clan(0, 1), 4);
-        DUE.is("herd of 3", y.clan(3, 1), 4);
-        DUE.is("owed before", y.count(3), 21);
-        DUE.is("year()", y.year(), 5);
-        DUE.is("0 has", y.clan(0, 1), 5);
-        DUE.is("1 has", y.clan(1, 1), 0);
-        DUE.is("2 has", y.clan(2, 1), 1);
-        DUE.is("3 has", y.clan(3, 1), 6);
-        DUE.is("0 owes 1", y.clan(0, 11), 0);
-        DUE.is("0 owes 2", y.clan(0, 12), 4);
-        DUE.is("0 owes 3", y.clan(0, 13), 1);
-        DUE.is("1 owes 2", y.clan(1, 12), 0);
-        DUE.is("2 owes 0", y.clan(2, 10), 0);
-    }
-
-    private static void yearOfACarefulOne() {
-        CowsOwed x = Due.hills("w4,c0;5");
-        x.wed(0, 1);
-        DUE.is("owed", x.clan(0, 11), 2);
-        DUE.is("year(): one cow does not grow and is not spared", x.year(), 2);
-        DUE.is("it keeps one", x.clan(0, 1), 1);
-        x.rate(4);
-        x.wed(1, 0);
-        DUE.is("it has", x.clan(0, 1), 5);
-        DUE.is("year() pays", x.year(), 0);
-        DUE.is("it has then", x.clan(0, 1), 5);
-    }
-
-    private static void yearGrowth() {
-        CowsOwed x = Due.hills("c9,c8;5");
-        int[] first = {13, 19, 28, 42, 63, 94, 99, 99};
-        int[] second = {12, 18, 27, 40, 60, 90, 99, 99};
-        for (int i = 0; i < first.length; i++) {
-            x.year();
-            DUE.is("herd of 0 in year " + i, x.clan(0, 1), first[i]);
-            DUE.is("herd of 1 in year " + i, x.clan(1, 1), second[i]);
+    static void promise10_wedding_unknownBeyondTheLast() {
+        DUE.is("wedding(1, 0) of two", weddings(2).wedding(1, 0), 1);
+        DUE.refuses(() -> weddings(2), "wedding(2, 0) of two", x -> x.wedding(2, 0), UNKNOWN);
+        DUE.is("wedding(11, 0) of twelve", weddings(12).wedding(11, 0), 2);
+        for (int wedding : new int[] {LEAST, -1, 12, GREATEST}) {
+            DUE.refuses(() -> weddings(12), "wedding(" + wedding + ", 0)", x -> x.wedding(wedding, 0), UNKNOWN);
         }
-        x.wed(0, 1);
-        x.year();
-        DUE.is("one that is greater stays", x.clan(1, 1), 104);
-        DUE.is("the other one grows to 99 at most", x.clan(0, 1), 99);
-        DUE.is("count(5)", x.count(5), 9);
+        DUE.refuses(() -> weddings(0), "wedding(0, 0) of none", x -> x.wedding(0, 0), UNKNOWN);
     }
 
-    private static void settled() {
-        DUE.is("settled() without hills", new CowsOwed().settled(), STATE);
-        CowsOwed x = Due.hills("c0,c0,c0,c0;5");
-        DUE.is("settled() of nothing", x.settled(), 0);
-        x.wed(0, 1);
-        DUE.is("settled() of one", x.settled(), 5);
+    static void promise10_wedding_whatIs0To3() {
+        for (int what : new int[] {LEAST, -1, 4, GREATEST}) {
+            DUE.refuses(Due::busy, "wedding(1, " + what + ")", x -> x.wedding(1, what), OUTSIDE);
+        }
+    }
+
+    static void promise10_wedding_tellsUnknownAheadOfOutside() {
+        DUE.refuses(Due::busy, "wedding(2, 4)", x -> x.wedding(2, 4), UNKNOWN);
+        DUE.refuses(Due::busy, "wedding(-1, -1)", x -> x.wedding(-1, -1), UNKNOWN);
+        DUE.refuses(CowsOwed::new, "wedding(0, 4)", x -> x.wedding(0, 4), UNKNOWN);
+    }
+
+    static void promise10_wedding_changesNothing() {
+        for (int what = 0; what <= 3; what++) {
+            int asked = what;
+            DUE.changesNothing(Due::busy, "wedding(1, " + what + ")", x -> x.wedding(1, asked));
+        }
+    }
+
+    // ---- promise 11: divorce
+
+    static void promise11_divorce_paysAllWhenHerHerdIsMore() {
+        CowsOwed x = Due.wedded("c9,k1;2", 0, 1);
+        DUE.is("divorce(0)", x.divorce(0), 6);
+        herds(x, 9, 1);
+        DUE.is("count(3)", x.count(3), 0);
+    }
+
+    static void promise11_divorce_paysAllWhenHerHerdIsJustEnough() {
+        CowsOwed x = Due.wedded("c6,k0;2", 0, 1);
+        DUE.is("divorce(0)", x.divorce(0), 6);
+        herds(x, 6, 0);
+        owes(x, 1, 0, 0);
+    }
+
+    static void promise11_divorce_owesTheRestWhenHerHerdIsOneShort() {
+        CowsOwed x = Due.wedded("c6,k0,c0;2", 0, 1);
+        x.rate(1);
         x.wed(1, 2);
-        DUE.is("settled() of a chain: from its first to its last", x.settled(), 5);
-        x.wed(2, 0);
-        DUE.is("settled() of a ring", x.settled(), 0);
-        DUE.is("owed of a ring", x.count(3), 15);
-        x.rate(3);
-        x.wed(0, 3);
-        x.wed(1, 3);
-        DUE.is("settled() of two to one", x.settled(), 6);
+        DUE.is("divorce(0)", x.divorce(0), 5);
+        herds(x, 5, 0, 1);
+        owes(x, 1, 0, 1);
+    }
+
+    static void promise11_divorce_paysNothingWithoutAHerd() {
+        CowsOwed x = Due.wedded("c5,c0,c0;5", 0, 1, 1, 2);
+        DUE.is("divorce(0)", x.divorce(0), 0);
+        herds(x, 0, 0, 5);
+        owes(x, 1, 0, 5);
+        DUE.is("wedding(0, 3)", x.wedding(0, 3), 1);
+    }
+
+    static void promise11_divorce_carefulKeepsOne() {
+        CowsOwed x = Due.wedded("c3,w0;3", 0, 1);
+        DUE.is("divorce(0)", x.divorce(0), 2);
+        herds(x, 2, 1);
+        owes(x, 1, 0, 1);
+    }
+
+    static void promise11_divorce_carefulWithoutAHerdPaysNothing() {
+        CowsOwed x = Due.wedded("c0,w0;3", 0, 1);
+        DUE.is("divorce(0)", x.divorce(0), 0);
+        owes(x, 1, 0, 3);
+    }
+
+    static void promise11_divorce_callsBackWhatWasNeverPaid() {
+        CowsOwed x = Due.wedded("c0,c4;4", 0, 1);
+        DUE.is("divorce(0)", x.divorce(0), 4);
+        herds(x, 4, 0);
+        owes(x, 0, 1, 4);
+    }
+
+    static void promise11_divorce_callsBackWhatWasAskedThen() {
+        CowsOwed x = Due.wedded("c9,k1;2", 0, 1);
+        x.rate(9);
+        DUE.is("divorce(0)", x.divorce(0), 6);
+    }
+
+    static void promise11_divorce_owesBesidesWhatItOwed() {
+        CowsOwed x = Due.wedded("c0,c0;4", 0, 1, 1, 0);
+        x.divorce(0);
+        owes(x, 0, 1, 4);
+        owes(x, 1, 0, 8);
+    }
+
+    static void promise11_divorce_ofOneUndoneIsState() {
+        DUE.refuses(Due::busy, "divorce(1)", x -> x.divorce(1), STATE);
+        DUE.is("divorce(0), not undone", Due.busy().divorce(0), 8);
+    }
+
+    static void promise11_divorce_ofOneUndoneWithNothingPaidIsState() {
+        DUE.refuses(() -> {
+            CowsOwed x = Due.wedded("c0,c0;4", 0, 1);
+            x.divorce(0);
+            return x;
+        }, "divorce(0)", x -> x.divorce(0), STATE);
+    }
+
+    static void promise11_divorce_unknownBeyondTheLast() {
+        DUE.is("divorce(11) of twelve", weddings(12).divorce(11), 1);
+        DUE.is("divorce(0) of twelve", weddings(12).divorce(0), 1);
+        for (int wedding : new int[] {LEAST, -1, 12, GREATEST}) {
+            DUE.refuses(() -> weddings(12), "divorce(" + wedding + ")", x -> x.divorce(wedding), UNKNOWN);
+        }
+        DUE.refuses(() -> weddings(2), "divorce(2) of two", x -> x.divorce(2), UNKNOWN);
+        DUE.refuses(() -> weddings(0), "divorce(0) of none", x -> x.divorce(0), UNKNOWN);
+    }
+
+    // ---- promise 12: year
+
+    static void promise12_year_withoutHillsIsState() {
+        DUE.refuses(CowsOwed::new, "year()", CowsOwed::year, STATE);
+        DUE.refuses(() -> Due.page("c0,k1;4"), "year()", CowsOwed::year, STATE);
+    }
+
+    static void promise12_year_isCounted() {
+        CowsOwed x = Due.hills("c0,c0;1");
+        for (int year = 1; year <= 100; year++) {
+            x.year();
+            DUE.is("count(5)", x.count(5), year);
+        }
+    }
+
+    static void promise12_year_growsByHalfRoundedDown() {
+        int[] grown = {0, 1, 3, 4, 6, 7, 9, 10, 12, 13};
+        for (int herd = 0; herd <= 9; herd++) {
+            CowsOwed x = Due.hills("c" + herd + ",w" + herd + ";1");
+            DUE.is("year()", x.year(), 0);
+            herds(x, grown[herd], grown[herd]);
+        }
+    }
+
+    /** Years make 9 cows 63 or 94, a wedding adds the rest. */
+    private static void grows(int years, int more, int wanted) {
+        CowsOwed x = Due.hills("c9,c9;1");
+        Due.years(x, years);
+        x.rate(more);
+        x.wed(1, 0);
+        int herd = x.clan(0, 1);
+        x.year();
+        DUE.is("a herd of " + herd + " then", x.clan(0, 1), wanted);
+    }
+
+    static void promise12_year_herd65GrowsTo97() {
+        grows(5, 2, 97);
+    }
+
+    static void promise12_year_herd66GrowsTo99() {
+        grows(5, 3, 99);
+    }
+
+    static void promise12_year_herd67GrowsTo99AtMost() {
+        grows(5, 4, 99);
+    }
+
+    static void promise12_year_herd98GrowsTo99() {
+        grows(6, 4, 99);
+    }
+
+    static void promise12_year_herd99Stays() {
+        grows(6, 5, 99);
+    }
+
+    static void promise12_year_herd100Stays() {
+        grows(6, 6, 100);
+    }
+
+    static void promise12_year_greaterHerdStays() {
+        grows(6, 9, 103);
+    }
+
+    static void promise12_year_paymentsMayMakeAHerdGreater() {
+        CowsOwed x = Due.wedded("c0,c9;5", 0, 1);
+        Due.years(x, 7);
+        herds(x, 0, 99);
         x.rate(4);
+        x.wed(1, 0);
+        DUE.is("year()", x.year(), 0);
+        herds(x, 1, 104);
+        x.year();
+        herds(x, 1, 104);
+    }
+
+    /** Clan 0 owes clan 1 so much and has two cows, which a year makes three; the others have none. */
+    private static CowsOwed twoCowsAndDebt(int debt) {
+        CowsOwed x = Due.hills("c0,c2,c0;1");
+        x.rate(debt);
+        x.wed(0, 1);
+        x.rate(2);
+        x.wed(1, 0);
+        return x;
+    }
+
+    static void promise12_year_growsAheadOfPaying() {
+        CowsOwed x = twoCowsAndDebt(3);
+        DUE.is("year()", x.year(), 0);
+        herds(x, 0, 3, 0);
+        owes(x, 0, 1, 0);
+    }
+
+    static void promise12_year_paysNoMoreThanIsOwed() {
+        CowsOwed x = twoCowsAndDebt(2);
+        DUE.is("year()", x.year(), 0);
+        herds(x, 1, 2, 0);
+    }
+
+    static void promise12_year_owesOneWhenItsHerdIsOneShort() {
+        CowsOwed x = twoCowsAndDebt(4);
+        DUE.is("year()", x.year(), 1);
+        herds(x, 0, 3, 0);
+        owes(x, 0, 1, 1);
+    }
+
+    static void promise12_year_withoutACowAllStaysOwed() {
+        CowsOwed x = Due.wedded("c0,c0,c0;5", 0, 1, 0, 2, 1, 2, 2, 0);
+        DUE.is("year()", x.year(), 20);
+        DUE.is("year() again", x.year(), 20);
+    }
+
+    static void promise12_year_paysOthersByNumber() {
+        CowsOwed x = Due.wedded("c0,c2,c0;3", 0, 2, 0, 1);
+        x.rate(2);
+        x.wed(1, 0);
+        DUE.is("year()", x.year(), 3);
+        owes(x, 0, 1, 0);
+        owes(x, 0, 2, 3);
+    }
+
+    static void promise12_year_whatIsLeftPaysTheNext() {
+        CowsOwed x = Due.wedded("c0,c2,c0;2", 0, 2, 0, 1, 1, 0);
+        DUE.is("year()", x.year(), 1);
+        owes(x, 0, 1, 0);
+        owes(x, 0, 2, 1);
+        herds(x, 0, 2, 1);
+    }
+
+    static void promise12_year_aLaterClanPaysOnWhatCame() {
+        CowsOwed x = twoCowsAndDebt(3);
+        x.rate(3);
+        x.wed(1, 2);
+        DUE.is("owed ahead of it", x.count(3), 6);
+        DUE.is("year()", x.year(), 0);
+        herds(x, 0, 0, 3);
+    }
+
+    static void promise12_year_anEarlierClanPaysOnAYearLater() {
+        CowsOwed x = Due.wedded("c0,c0,c0,c2;3", 2, 1, 1, 0);
+        x.rate(2);
         x.wed(3, 2);
-        DUE.is("settled() of what is left", x.settled(), 6);
-        DUE.is("settled() changes nothing", x.count(3), 25);
-        CowsOwed first = Due.hills("c0,c0,c0;4");
-        first.wed(1, 0);
-        first.wed(2, 0);
-        DUE.is("settled() of all to the first", first.settled(), 8);
-        CowsOwed back = Due.hills("c0,c0;4");
-        back.wed(0, 1);
-        back.rate(1);
-        back.wed(1, 0);
-        DUE.is("settled() of two that owe each other", back.settled(), 3);
+        DUE.is("year()", x.year(), 3);
+        herds(x, 0, 3, 0, 0);
+        owes(x, 1, 0, 3);
+        DUE.is("year() again", x.year(), 0);
+        herds(x, 3, 1, 0, 0);
+    }
+
+    static void promise12_year_carefulKeepsOne() {
+        CowsOwed x = Due.wedded("w4,c0;5", 0, 1);
+        owes(x, 0, 1, 2);
+        DUE.is("one cow neither grows nor is spared", x.year(), 2);
+        herds(x, 1, 4);
+        x.rate(1);
+        x.wed(1, 0);
+        DUE.is("two cows are three, two are spared", x.year(), 0);
+        herds(x, 1, 6);
+    }
+
+    // ---- promise 13: settled
+
+    private static void settles(String text, int want, int... pairs) {
+        DUE.is("settled() of " + text, Due.wedded(text, pairs).settled(), want);
+    }
+
+    static void promise13_settled_withoutHillsIsState() {
+        DUE.refuses(CowsOwed::new, "settled()", CowsOwed::settled, STATE);
+        DUE.refuses(() -> Due.page("c0,k1;4"), "settled()", CowsOwed::settled, STATE);
+    }
+
+    static void promise13_settled_ofNoDebtIs0() {
+        settles("c0,c0,c0,c0;5", 0);
+        settles("c9,c0;5", 0, 0, 1);
+    }
+
+    static void promise13_settled_ofOneDebtIsAllOfIt() {
+        settles("c0,c0,c0,c0;5", 5, 0, 1);
+        settles("c0,c0,c0,c0;5", 5, 3, 0);
+        settles("c4,c0;5", 1, 0, 1);
+    }
+
+    static void promise13_settled_aChainIsLedOnce() {
+        settles("c0,c0,c0;5", 5, 0, 1, 1, 2);
+        settles("c0,c0,c0,c0;5", 5, 3, 2, 2, 1, 1, 0);
+    }
+
+    static void promise13_settled_aChainOfUnequalDebts() {
+        settles("c0,c0,p0;5", 6, 0, 1, 1, 2);
+        settles("c0,p0,c0;5", 6, 0, 1, 1, 2);
+    }
+
+    static void promise13_settled_aRingLeavesNothing() {
+        settles("c0,c0;5", 0, 0, 1, 1, 0);
+        settles("c0,c0,c0;5", 0, 0, 1, 1, 2, 2, 0);
+        settles("c0,c0,c0,c0;5", 0, 0, 1, 1, 2, 2, 3, 3, 0);
+    }
+
+    static void promise13_settled_aRingLeavesWhatIsUnequal() {
+        settles("c0,p0;5", 1, 0, 1, 1, 0);
+        settles("c0,c0,k0;5", 7, 0, 1, 1, 2, 2, 0);
+        settles("k0,o0;4", 7, 0, 1, 1, 0);
+    }
+
+    static void promise13_settled_twoRingsLeaveNothing() {
+        settles("c0,c0,c0,c0;5", 0, 0, 1, 1, 0, 2, 3, 3, 2);
+    }
+
+    static void promise13_settled_manyToOneAndOneToMany() {
+        settles("c0,c0,c0,c0;4", 12, 1, 0, 2, 0, 3, 0);
+        settles("c0,c0,c0,c0;4", 12, 0, 1, 0, 2, 0, 3);
+        settles("c0,c0,c0,c0;4", 8, 0, 1, 2, 3);
+    }
+
+    static void promise13_settled_ofTheDeepestDebt() {
+        CowsOwed x = Due.hills("k0,c0;5");
+        x.rate(9);
+        for (int i = 0; i < 12; i++) {
+            x.wed(1, 0);
+        }
+        DUE.is("settled()", x.settled(), 240);
+    }
+
+    static void promise13_settled_asIfEachHadEnough() {
+        CowsOwed x = Due.wedded("c0,c9,c9;5", 0, 1);
+        DUE.is("settled()", x.settled(), 5);
+        x.wed(1, 0);
+        herds(x, 5, 4, 9);
+        DUE.is("settled() with a herd", x.settled(), 5);
+    }
+
+    static void promise13_settled_changesNothing() {
+        DUE.changesNothing(Due::busy, "settled()", CowsOwed::settled);
     }
 }
