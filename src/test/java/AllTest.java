@@ -128,7 +128,7 @@ final class AllTest {
         DUE.is("wedding(0, 3), undone since", x.wedding(0, 3), 0);
         DUE.is("wedding(1, 3), undone before", x.wedding(1, 3), 1);
         DUE.is("wed(0, 1)", x.wed(0, 1), 2);
-        DUE.is("wedding(2, 1), one that was is gone", x.wedding(2, 0), 0);
+        DUE.is("wedding(2, 0), another one since", x.wedding(2, 0), 0);
     }
 
     /** Plans of the same number, but of other clans, give way to those of the image. */
@@ -261,14 +261,20 @@ final class AllTest {
         DUE.is("count(4)", x.count(4), 2);
     }
 
-    static void promise25_count_fullOfEverything() {
+    /** Twelve weddings round four kings at rate 9, four plans, six told, a full page. */
+    private static CowsOwed full(String letters) {
         CowsOwed x = Due.planned("k0,k0,k0,k0;5", 0, 1, 1, 2, 2, 3, 3, 0);
         x.rate(9);
         for (int i = 0; i < 12; i++) {
             x.wed(i % 4, (i + 1) % 4);
             x.tell(9, 20);
         }
-        Due.write(x, "c0,c0,c0,c0,c0;1c");
+        Due.write(x, letters);
+        return x;
+    }
+
+    static void promise25_count_ofAFullObject() {
+        CowsOwed x = full("c0,c0,c0,c0,c0;1c");
         int[] due = {4, 9, 0, 240, 12, 0, 4, 6, 16, 1};
         for (int what = 0; what < due.length; what++) {
             DUE.is("count(" + what + ")", x.count(what), due[what]);
@@ -374,17 +380,10 @@ final class AllTest {
     }
 
     static void promise26_digest_ofAFullObjectWraps() {
-        CowsOwed x = Due.planned("k0,p0,k0,w0;5", 0, 1, 1, 2, 2, 3, 3, 0);
-        x.rate(9);
-        for (int i = 0; i < 12; i++) {
-            x.wed(i % 4, (i + 1) % 4);
-            x.tell(9, 20);
-        }
-        Due.write(x, "~~~~~~~~~~~~~~~~");
-        digests(x, "~~~~~~~~~~~~~~~~");
+        digests(full("~~~~~~~~~~~~~~~~"), "~~~~~~~~~~~~~~~~");
     }
 
-    /** 24 numbers behind 967 do not fit a long: no plan, no rate, no kind left to ask. */
+    /** No plan at a place, no rate that would do, no kind left to ask. */
     static void promise26_digest_takesNoneAsMinusOne() {
         CowsOwed x = Due.planned("c0,c0;5", 0, 1);
         x.tell(1, 20);

@@ -3,13 +3,15 @@ import java.util.Random;
 /** Runs of calls by fixed seeds, each asked of the class and of the model: every answer must be the same. */
 final class ModelTest {
     private static final Due DUE = new Due("ModelTest");
-    private static final int RUNS = 400, CALLS = 500;
+    /** An object is good for 512 calls; one step of a run makes 16 at most. */
+    private static final int RUNS = 700, CALLS = 512, STEP = 16;
     private static final int[] EDGES = {-1, Integer.MIN_VALUE, Integer.MAX_VALUE, 4, 5, 9, 10, 12, 13, 14, 20, 21, 40, 41, 127};
 
     private final Random random;
     private final CowsOwed x = new CowsOwed();
     private final Model model = new Model();
     private final String run;
+    private int calls = 0;
 
     private ModelTest(int seed) {
         random = new Random(seed);
@@ -19,8 +21,8 @@ final class ModelTest {
     public static void main(String[] args) {
         for (int seed = 0; seed < RUNS; seed++) {
             ModelTest test = new ModelTest(seed);
-            for (int i = 0; i < CALLS; i++) {
-                test.call();
+            while (test.calls <= CALLS - STEP) {
+                test.step();
             }
         }
         DUE.end();
@@ -32,10 +34,11 @@ final class ModelTest {
     }
 
     private void same(String call, long got, long want) {
+        calls++;
         DUE.is(run + call, got, want);
     }
 
-    private void call() {
+    private void step() {
         switch (random.nextInt(32)) {
             case 0: case 1: letters(); break;
             case 2: case 3: case 4: case 5: case 6: pair(); break;
