@@ -229,7 +229,7 @@ final class HillsTest {
 
     static void promise04_fault_aLetterBehindTheRateIsOne() {
         for (String text : new String[] {"c5,p4;1", "c5,p4,o3;1", "c5,p4,o3,w2;1"}) {
-            for (char more : ",;c0 ".toCharArray()) {
+            for (char more = 1; more <= 126; more++) {
                 faultOf(text + more, text.length());
             }
         }
