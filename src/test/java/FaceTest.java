@@ -26,6 +26,10 @@ final class FaceTest {
         constants();
         fields();
         classesInside();
+        sizes(CowsOwed.class);
+        for (Class<?> one : CowsOwed.class.getDeclaredClasses()) {
+            sizes(one);
+        }
         words(Files.readString(Path.of("src/main/java/CowsOwed.java"), StandardCharsets.US_ASCII));
         DUE.end();
     }
@@ -97,6 +101,20 @@ final class FaceTest {
                 int how = field.getModifiers();
                 DUE.holds(field + " is final, if it is static", !Modifier.isStatic(how) || Modifier.isFinal(how));
             }
+        }
+    }
+
+    private static void sizes(Class<?> one) {
+        int held = 0;
+        for (Field field : one.getDeclaredFields()) {
+            held += Modifier.isStatic(field.getModifiers()) ? 0 : 1;
+        }
+        DUE.holds(one + " has at most twenty fields", held <= 20);
+        for (Method method : one.getDeclaredMethods()) {
+            DUE.holds(method + " takes at most seven", method.getParameterCount() <= 7);
+        }
+        for (Constructor<?> made : one.getDeclaredConstructors()) {
+            DUE.holds(made + " takes at most seven", made.getParameterCount() <= 7);
         }
     }
 
